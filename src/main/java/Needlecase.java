@@ -349,7 +349,8 @@ public final class Needlecase {
     }
 
     private int placesUpTo(int number) {
-        int ahead = placesAhead(number);
+        asked.spellNumber(number);
+        int ahead = listed().ahead(asked);
         return tree.find(asked) == null ? ahead : ahead + 1;
     }
 
@@ -446,7 +447,7 @@ public final class Needlecase {
         }
 
         boolean isNumber() {
-            return byteAt(0) == NUMBER;
+            return length > 0 && bytes[0] == NUMBER;
         }
 
         int readNumber() {
@@ -543,7 +544,8 @@ public final class Needlecase {
         private int placeOf(int hang) {
             int place = 0;
             for (int step = WIDEST_STEP; step > 0; step >>= 1) {
-                Node child = childAt(place + step - 1);
+                int last = place + step - 1;
+                Node child = last < count && last < children.length ? children[last] : null;
                 if (child != null && child.hang < hang) {
                     place += step;
                 }
@@ -685,19 +687,15 @@ public final class Needlecase {
                 inner = innerOf(node);
             }
             if (inner != null && inner.branching == fork) {
-                addChild(inner, leaf, key.byteAt(fork));
+                if (inner.add(leaf, key.byteAt(fork))) {
+                    growths++;
+                }
             } else if (node != null) {
                 Inner fresh = takeInner(fork);
-                // Ahead of addChild: the node above is searched by the bytes by which its children hang.
+                // Ahead of add: the node above is searched by the bytes by which its children hang.
                 replaceBelow(above, key, fresh);
-                addChild(fresh, node, near.key.byteAt(fork));
-                addChild(fresh, leaf, key.byteAt(fork));
-            }
-        }
-
-        private void addChild(Inner inner, Node child, int hang) {
-            if (inner.add(child, hang)) {
-                growths++;
+                fresh.add(node, near.key.byteAt(fork));
+                fresh.add(leaf, key.byteAt(fork));
             }
         }
 

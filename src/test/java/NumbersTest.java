@@ -183,6 +183,21 @@ final class NumbersTest {
         Expect.equal(400, x.size());
     }
 
+    static void promise05LoadIntoAMapWithRoomForOneMore() {
+        Needlecase x = Expect.full();
+        x.remove(398);
+        Expect.badState(x, () -> x.load(-2, 1, 2, 1));
+        Expect.badState(x, () -> x.load(-2, 1, 10, 1));
+        Expect.badState(x, () -> x.load(398, 1, 2, 1));
+        Expect.badState(x, () -> x.load(390, 1, 10, 1));
+        Expect.badState(x, () -> x.load(-1, 399, 2, 1));
+        Expect.equal(1, x.load(-1, 1, 10, 3));
+        Expect.equal(3, x.get(8));
+        x.remove(-1);
+        Expect.equal(1, x.load(397, 1, 2, 4));
+        Expect.equal(400, x.size());
+    }
+
     static void promise06RemoveRangeTakesNumbersOut() {
         Needlecase x = with(LOW, -2, -1, 0, 1, 2, HIGH);
         Expect.putWord(x, "a", 1);

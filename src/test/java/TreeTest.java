@@ -168,6 +168,16 @@ final class TreeTest {
         Expect.equal(12, x.height());
         nodesAre(x, 12, 0, 0, 0);
         Expect.equal(1, x.pathBytes());
+        Expect.putWord(x, "b", 1);
+        Expect.equal(13, x.height());
+        nodesAre(x, 13, 0, 0, 0);
+        Expect.equal(0, x.pathBytes());
+        Expect.write(x, "aaaaaaaaaaab");
+        Expect.equal(1, x.removeWord());
+        Expect.equal(13, x.height());
+        Expect.write(x, "aaaaaaaaaaaa");
+        Expect.equal(12, x.removeWord());
+        Expect.equal(12, x.height());
     }
 
     static void promise24PathBytes() {
