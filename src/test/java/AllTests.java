@@ -6,8 +6,9 @@ import java.util.Comparator;
 
 /** Runs every test method of the project: each static method without arguments of the classes below. */
 public final class AllTests {
-    private static final Class<?>[] SUITES = {
+    static final Class<?>[] SUITES = {
         NumbersTest.class, WordsTest.class, TreeTest.class, WalkTest.class,
+        NumberEdgesTest.class, WordEdgesTest.class, TreeEdgesTest.class, WalkEdgesTest.class, SaysTest.class,
         ModelTest.class, RoomTest.class, FaceTest.class, SourceTest.class,
     };
 

@@ -46,7 +46,8 @@ final class Expect {
         refused(x, java.util.ConcurrentModificationException.class, call);
     }
 
-    private static String outcome(Runnable call) {
+    /** The name of the exception that the call throws. */
+    static String outcome(Runnable call) {
         try {
             call.run();
             return "no exception";
