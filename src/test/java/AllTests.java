@@ -9,7 +9,7 @@ public final class AllTests {
     static final Class<?>[] SUITES = {
         NumbersTest.class, WordsTest.class, TreeTest.class, WalkTest.class,
         NumberEdgesTest.class, WordEdgesTest.class, TreeEdgesTest.class, WalkEdgesTest.class, SaysTest.class,
-        ModelTest.class, RoomTest.class, FaceTest.class, SourceTest.class,
+        MeetingTest.class, ModelTest.class, ScriptTest.class, RoomTest.class, FaceTest.class, SourceTest.class, ReadmeTest.class,
     };
 
     private static int passed = 0;

@@ -1,13 +1,9 @@
-import java.lang.reflect.InvocationTargetException;
 import java.lang.reflect.Method;
-import java.util.HashMap;
-import java.util.Map;
 import java.util.TreeSet;
 
 /** Runs of mixed calls, each answered as the model answers it. The same runs every time. */
 final class ModelTest {
     private static final int RUNS = 1200;
-    private static final int CALLS = 512;
     private static final int[] EDGES = {
         Integer.MIN_VALUE, Integer.MIN_VALUE + 1, -65536, -257, -256, -255, -1, 0, 1, 2, 255, 256, 257, 65535,
         65536, 1 << 24, Integer.MAX_VALUE - 1, Integer.MAX_VALUE,
@@ -25,30 +21,18 @@ final class ModelTest {
         {"put", "remove", "next", "removeHere", "load"},
     };
 
-    private final Map<String, Method> real = methods(Needlecase.class);
-    private final Map<String, Method> modelled = methods(Model.class);
     private final TreeSet<String> outcomes = new TreeSet<>();
     private long dice;
 
     private ModelTest() {
     }
 
-    static void promises01To35AnswerAsTheModel() throws IllegalAccessException {
+    static void promises01To35AnswerAsTheModel() {
         ModelTest test = new ModelTest();
         for (int run = 0; run < RUNS; run++) {
             test.run(run);
         }
         test.everyOutcomeWasSeen();
-    }
-
-    private static Map<String, Method> methods(Class<?> owner) {
-        Map<String, Method> methods = new HashMap<>();
-        for (Method method : owner.getDeclaredMethods()) {
-            if (java.lang.reflect.Modifier.isPublic(method.getModifiers())) {
-                methods.put(method.getName(), method);
-            }
-        }
-        return methods;
     }
 
     private int upTo(int bound) {
@@ -60,24 +44,15 @@ final class ModelTest {
         return from[upTo(from.length)];
     }
 
-    private void run(int run) throws IllegalAccessException {
+    private void run(int run) {
         dice = run * 7919L + 17;
-        Needlecase x = new Needlecase();
-        Model model = new Model();
+        Pair pair = new Pair();
         int taste = run % 6;
         String alphabet = ALPHABETS[run / 6 % ALPHABETS.length];
-        StringBuilder told = new StringBuilder();
-        for (int call = 0; call < CALLS; call++) {
+        while (pair.callsLeft() > 0) {
             String name = nameOf(taste);
-            Object[] args = argumentsOf(name, taste, alphabet, model);
-            told.append(name).append(java.util.Arrays.toString(args));
-            String due = answer(modelled.get(name), model, args);
-            String got = answer(real.get(name), x, args);
-            told.append(" = ").append(due).append('\n');
-            outcomes.add(name + " " + (due.startsWith("throws") ? due : "answers"));
-            if (!due.equals(got)) {
-                throw new AssertionError("run " + run + ", call " + call + " answered " + got + ", due is the last row:\n" + told);
-            }
+            String answer = pair.ask(name, argumentsOf(name, taste, alphabet, pair.model));
+            outcomes.add(name + " " + (Pair.isThrown(answer) ? answer : "answers"));
         }
     }
 
@@ -93,14 +68,6 @@ final class ModelTest {
         String name = KINDS[kind][upTo(KINDS[kind].length)];
         boolean rarely = upTo(4) > 0;
         return rarely && (name.equals("removeRange") || name.equals("clear") || name.equals("walk")) ? "next" : name;
-    }
-
-    private static String answer(Method method, Object owner, Object[] args) throws IllegalAccessException {
-        try {
-            return String.valueOf(method.invoke(owner, args));
-        } catch (InvocationTargetException e) {
-            return "throws." + e.getCause().getClass().getName();
-        }
     }
 
     private int number(int taste, Model model) {
@@ -167,7 +134,7 @@ final class ModelTest {
     /** Otherwise the runs would not show what they are there for. */
     private void everyOutcomeWasSeen() {
         TreeSet<String> due = new TreeSet<>();
-        for (Method method : real.values()) {
+        for (Method method : Pair.FACE.values()) {
             due.add(method.getName() + " answers");
             for (Class<?> kind : method.getExceptionTypes()) {
                 due.add(method.getName() + " throws." + kind.getName());

@@ -477,6 +477,60 @@ final class NumberEdgesTest {
         }
     }
 
+    @Says("Takes all numbers of a range out, as by remove(), from the lowest one on.")
+    static void promise06RemoveRangeDoesWhatRemovesDoInNodesOfAllSizes() {
+        int[][] ranges = {{0, 19}, {0, 45}, {0, 60}, {10, 58}, {-70000, 3}, {59, 200000}, {300, 70000}, {LOW, 2}, {57, HIGH},
+            {LOW, HIGH}};
+        for (int[] range : ranges) {
+            asRemovesDo(NumberEdgesTest::inNodesOfAllSizes, range[0], range[1]);
+            asRemovesDo(NumberEdgesTest::whileAWalkGoesOn, range[0], range[1]);
+        }
+    }
+
+    private static void asRemovesDo(Twins.Maker maker, int low, int high) {
+        Twins.alike(() -> {
+            Needlecase x = maker.make();
+            x.removeRange(low, high);
+            return x;
+        }, () -> {
+            Needlecase x = maker.make();
+            for (int number : numbersOf(maker.make(), low, high)) {
+                x.remove(number);
+            }
+            return x;
+        });
+    }
+
+    /** The numbers of a range, the lowest first. */
+    private static int[] numbersOf(Needlecase x, int low, int high) {
+        int first = x.rank(low);
+        int[] numbers = new int[x.rank(high) + (x.floor(high) == high ? 1 : 0) - first];
+        for (int i = 0; i < numbers.length; i++) {
+            numbers[i] = x.select(first + i);
+        }
+        return numbers;
+    }
+
+    /** Sixty children at one node, thirteen, five and two at others, and words with nodes of their own. */
+    private static Needlecase inNodesOfAllSizes() {
+        Needlecase x = new Needlecase();
+        x.load(0, 1, 60, 1);
+        x.load(256, 256, 13, 2);
+        x.load(LOW, 1, 2, 3);
+        x.load(-65536, 1, 5, 4);
+        Expect.putWord(x, "ab", 5);
+        Expect.putWord(x, "abc", 6);
+        return x;
+    }
+
+    private static Needlecase whileAWalkGoesOn() {
+        Needlecase x = inNodesOfAllSizes();
+        x.walk(0, 1000);
+        x.next();
+        x.next();
+        return x;
+    }
+
     /** Every tenth number up to 240, and all from 250 to 299. */
     private static Needlecase loaded() {
         Needlecase x = new Needlecase();

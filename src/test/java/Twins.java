@@ -7,8 +7,9 @@ final class Twins {
     private static final int HIGH = Integer.MAX_VALUE;
     private static final int[] SIZES = {4, 16, 48, 256};
 
-    /** Three calls for each number; with what a maker takes this stays under 512. */
-    private static final int NUMBERS_A_READING = 134;
+    /** Four calls for each number; with what a maker takes this stays under 512. */
+    private static final int NUMBERS_A_READING = 100;
+    private static final int NEIGHBOURS_A_READING = 50;
     private static final int STEPS_A_READING = 100;
     private static final int WORDS_A_READING = 30;
     private static final int MOST_LETTERS = 12;
@@ -35,6 +36,8 @@ final class Twins {
         (x, told) -> readNumbers(x, 0, told),
         (x, told) -> readNumbers(x, NUMBERS_A_READING, told),
         (x, told) -> readNumbers(x, 2 * NUMBERS_A_READING, told),
+        (x, told) -> readNumbers(x, 3 * NUMBERS_A_READING, told),
+        Twins::readNeighbours,
     };
 
     private Twins() {
@@ -94,14 +97,15 @@ final class Twins {
         return told.toString();
     }
 
-    /** Returns whether the call answered. */
-    private static boolean tell(Needlecase x, StringBuilder told, Answer answer) {
+    /** Returns the answer, or null if the call threw. */
+    private static Object tell(Needlecase x, StringBuilder told, Answer answer) {
         try {
-            told.append(answer.of(x)).append(' ');
-            return true;
+            Object answered = answer.of(x);
+            told.append(answered).append(' ');
+            return answered;
         } catch (RuntimeException e) {
             told.append(e.getClass().getSimpleName()).append(' ');
-            return false;
+            return null;
         }
     }
 
@@ -125,7 +129,7 @@ final class Twins {
         boolean more = true;
         while (more && place <= MOST_LETTERS) {
             int asked = place;
-            more = tell(x, told, y -> y.letterAt(asked));
+            more = tell(x, told, y -> y.letterAt(asked)) != null;
             place++;
         }
     }
@@ -158,18 +162,37 @@ final class Twins {
         tell(x, told, Needlecase::next);
         readLetters(x, told);
         int left = 0;
-        while (left <= MOST_LETTERS && tell(x, told, Needlecase::back)) {
+        while (left <= MOST_LETTERS && tell(x, told, Needlecase::back) != null) {
             left++;
         }
     }
 
     private static void readNumbers(Needlecase x, int from, StringBuilder told) {
-        int end = Math.min(from + NUMBERS_A_READING, x.size());
+        int end = Math.min(from + NUMBERS_A_READING, x.rank(HIGH) + 1);
         for (int place = from; place < end; place++) {
             int asked = place;
-            if (tell(x, told, y -> y.select(asked))) {
-                int number = x.select(asked);
+            if (tell(x, told, y -> y.select(asked)) instanceof Integer number) {
                 tell(x, told, y -> y.get(number));
+                tell(x, told, y -> y.depth(number));
+                tell(x, told, y -> y.rank(number));
+            }
+        }
+    }
+
+    /** What stands beside numbers spread over the whole map. */
+    private static void readNeighbours(Needlecase x, StringBuilder told) {
+        int numbers = x.rank(HIGH) + 1;
+        int step = numbers / NEIGHBOURS_A_READING + 1;
+        for (int place = 0; place < numbers; place += step) {
+            int asked = place;
+            if (tell(x, told, y -> y.select(asked)) instanceof Integer number) {
+                tell(x, told, y -> y.ceiling(number + 1));
+                tell(x, told, y -> y.floor(number - 1));
+                for (int bytes = 1; bytes <= 3; bytes++) {
+                    int agreed = bytes;
+                    tell(x, told, y -> y.countPrefix(number, agreed));
+                }
+                tell(x, told, y -> y.sum(LOW, number));
             }
         }
     }
