@@ -82,7 +82,7 @@ final class ReadmeTest {
         }
     }
 
-    /** What README.md quotes stands in the document; its own texts between quotation marks are in code alone. */
+    /** Outside its code README.md has between quotation marks only what the document says. */
     static void theQuotedWordsStandInTheDocument() throws IOException {
         if (!Files.exists(DOCUMENT)) {
             System.out.println("there is no " + DOCUMENT + ": what README.md quotes is not looked up");
